@@ -1,0 +1,112 @@
+import java.util.NoSuchElementException;
+
+/** Counts the answers that are not the ones that are due, and tells each of them. */
+final class Check {
+    interface Call {
+        long answer();
+    }
+
+    interface Act {
+        void run();
+    }
+
+    private int wrong = 0;
+    private int looked = 0;
+    private String part = "";
+
+    void part(String name) {
+        part = name;
+    }
+
+    void due(String call, String got, String want) {
+        looked++;
+        if (!got.equals(want)) {
+            wrong++;
+            System.out.println(part + ": " + call + " answered " + got + ", due is " + want);
+        }
+    }
+
+    void due(String call, long want, Call asked) {
+        due(call, outcome(asked), Long.toString(want));
+    }
+
+    void fine(String call, Act act) {
+        due(call, outcome(act), "nothing");
+    }
+
+    /** The call must throw just that class, and must leave the whole state as it was. */
+    void refused(TypeStack x, String call, Class<? extends RuntimeException> want, Act act) {
+        String before = state(x);
+        due(call, outcome(act), "throws." + want.getSimpleName());
+        due("the state behind " + call, state(x), before);
+    }
+
+    static String outcome(Act act) {
+        return outcome(() -> {
+            act.run();
+            return Long.MIN_VALUE;
+        });
+    }
+
+    static String outcome(Call asked) {
+        try {
+            long answer = asked.answer();
+            return answer == Long.MIN_VALUE ? "nothing" : Long.toString(answer);
+        } catch (RuntimeException e) {
+            return "throws." + e.getClass().getSimpleName();
+        }
+    }
+
+    /** All that can be asked of an object. */
+    static String state(TypeStack x) {
+        StringBuilder told = new StringBuilder("counts");
+        for (int what = 0; what < 4; what++) {
+            told.append(' ').append(x.count(what));
+        }
+        return told.append(" stack").append(stack(x)).append(" frames").append(framesOf(x)).toString();
+    }
+
+    /** The stack from the bottom, a digit each. */
+    static String stack(TypeStack x) {
+        StringBuilder told = new StringBuilder("[");
+        for (int i = x.count(0) - 1; i >= 0; i--) {
+            told.append(x.top(i));
+        }
+        return told.append(']').toString();
+    }
+
+    private static String framesOf(TypeStack x) {
+        StringBuilder told = new StringBuilder();
+        for (int l = 0; l < x.count(1); l++) {
+            told.append(' ').append(frame(x, l));
+        }
+        return told.toString();
+    }
+
+    /** Of one label, in this order: kind, what it takes and leaves, floor, dead, what it wants. */
+    static String frame(TypeStack x, int l) {
+        StringBuilder told = new StringBuilder("(");
+        for (int what = 0; what < 6; what++) {
+            told.append(what == 0 ? "" : ",").append(asked(x, l, what));
+        }
+        return told.append(')').toString();
+    }
+
+    private static String asked(TypeStack x, int l, int what) {
+        try {
+            return Integer.toString(x.frame(l, what));
+        } catch (NoSuchElementException e) {
+            return "none";
+        }
+    }
+
+    /** Tells how it went; a test's main ends with this. */
+    void finish() {
+        System.out.println(wrong == 0
+                ? "all " + looked + " answers are as due"
+                : wrong + " of " + looked + " answers are not as due");
+        if (wrong != 0) {
+            System.exit(1);
+        }
+    }
+}
