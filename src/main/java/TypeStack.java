@@ -15,6 +15,7 @@ public final class TypeStack {
     private static final int NOTHING = 0;
     private static final int LIST_BASE = 5;
     private static final int LIST_LIMIT = 6;
+    // 5 to the power of 6: the least number with more digits than a list may have.
     private static final int LIST_NUMBERS = 15625;
 
     private static final int STACK_LIMIT = 300;

@@ -57,7 +57,10 @@ final class Check {
         }
     }
 
-    /** All that can be asked of an object. */
+    /**
+     * All that can be asked of an object. It may ask more often than the 512 times that the document
+     * promises an answer for: the program does not count its calls, so that does no harm here.
+     */
     static String state(TypeStack x) {
         StringBuilder told = new StringBuilder("counts");
         for (int what = 0; what < 4; what++) {

@@ -124,6 +124,9 @@ public final class PromisesTest {
         check.due("end()", 0, x::end);
         check.fine("begin(3)", () -> x.begin(3));
         check.due("the state", Check.state(x), "counts 0 1 0 0 stack[] frames (0,0,3,0,0,3)");
+        x.never();
+        check.fine("begin(3) in dead code", () -> x.begin(3));
+        check.refused(x, "drop(): the new frame is not dead", STATE, x::drop);
     }
 
     private static void apply() {
@@ -286,6 +289,12 @@ public final class PromisesTest {
         frame(x, 1, "2,3,0,3,1,0");
         check.due("drop()", 2, x::drop);
         check.refused(x, "drop(): the new frame is not dead", STATE, x::drop);
+        x.never();
+        x.otherwise();
+        x.never();
+        x.end();
+        check.due("block(0, 0, 1) where a dead one was", 5, () -> x.block(BLOCK, 0, 1));
+        frame(x, 0, "0,0,1,4,0,1");
     }
 
     private static void blockRefuses() {
