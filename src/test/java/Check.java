@@ -10,6 +10,19 @@ final class Check {
         void run();
     }
 
+    /** Makes a new object and brings it into the state that a test begins from. */
+    interface Scene {
+        TypeStack make();
+    }
+
+    interface Use {
+        void on(TypeStack x);
+    }
+
+    interface Ask {
+        long of(TypeStack x);
+    }
+
     private int wrong = 0;
     private int looked = 0;
     private String part = "";
@@ -41,6 +54,36 @@ final class Check {
         due("the state behind " + call, state(x), before);
     }
 
+    /** The same of a new object for every look, so that none of them is called more than 512 times. */
+    void refused(String call, Class<? extends RuntimeException> want, Scene scene, Use use) {
+        TypeStack x = scene.make();
+        due(call, outcome(() -> use.on(x)), "throws." + want.getSimpleName());
+        due("the state behind " + call, stateOf(() -> tried(scene, use)), stateOf(scene));
+    }
+
+    void answers(String call, long want, Scene scene, Ask ask) {
+        TypeStack x = scene.make();
+        due(call, want, () -> ask.of(x));
+    }
+
+    void fine(String call, Scene scene, Use use) {
+        TypeStack x = scene.make();
+        fine(call, () -> use.on(x));
+    }
+
+    private static TypeStack tried(Scene scene, Use use) {
+        TypeStack x = scene.make();
+        outcome(() -> use.on(x));
+        return x;
+    }
+
+    /** All that can be asked, of two objects in the same state: one alone would be asked too often. */
+    private static String stateOf(Scene scene) {
+        TypeStack first = scene.make();
+        TypeStack second = scene.make();
+        return counts(first) + " stack" + stack(first) + " frames" + framesOf(second);
+    }
+
     static String outcome(Act act) {
         return outcome(() -> {
             act.run();
@@ -62,11 +105,15 @@ final class Check {
      * promises an answer for: the program does not count its calls, so that does no harm here.
      */
     static String state(TypeStack x) {
+        return counts(x) + " stack" + stack(x) + " frames" + framesOf(x);
+    }
+
+    private static String counts(TypeStack x) {
         StringBuilder told = new StringBuilder("counts");
         for (int what = 0; what < 4; what++) {
             told.append(' ').append(x.count(what));
         }
-        return told.append(" stack").append(stack(x)).append(" frames").append(framesOf(x)).toString();
+        return told.toString();
     }
 
     /** The stack from the bottom, a digit each. */

@@ -1,22 +1,6 @@
-import java.util.NoSuchElementException;
-
 /** Each promise of the document by itself: ordinary inputs, the edges it names, wrong inputs. */
-public final class PromisesTest {
+public final class PromisesTest extends Scenes {
     private static final Check check = new Check();
-
-    private static final Class<NoSuchElementException> NO_ELEMENT = NoSuchElementException.class;
-    private static final Class<IllegalArgumentException> ARGUMENT = IllegalArgumentException.class;
-    private static final Class<IllegalStateException> STATE = IllegalStateException.class;
-    private static final Class<ArithmeticException> TOO_MANY = ArithmeticException.class;
-    private static final Class<UnsupportedOperationException> UNSUPPORTED = UnsupportedOperationException.class;
-
-    private static final int BLOCK = 0;
-    private static final int LOOP = 1;
-    private static final int IF = 2;
-
-    /** No lists: below zero, with a digit 0, of seven digits. */
-    private static final int[] NO_LISTS = {
-        Integer.MIN_VALUE, -6, -1, 5, 10, 25, 26, 30, 3125, 3905, 15620, 15625, 19531, 78124, Integer.MAX_VALUE};
 
     public static void main(String[] args) {
         newObject();
@@ -47,45 +31,6 @@ public final class PromisesTest {
         count();
         afterTheLastEnd();
         check.finish();
-    }
-
-    /** The digits of a list as the document writes it: list(1, 2) is 7. */
-    private static int list(int... types) {
-        int number = 0;
-        for (int type : types) {
-            number = number * 5 + type;
-        }
-        return number;
-    }
-
-    private static TypeStack begun(int out) {
-        TypeStack x = new TypeStack();
-        x.begin(out);
-        return x;
-    }
-
-    private static TypeStack holding(int... types) {
-        TypeStack x = new TypeStack();
-        for (int type : types) {
-            x.apply(0, type);
-        }
-        return x;
-    }
-
-    private static TypeStack filled(int out) {
-        TypeStack x = begun(out);
-        for (int i = 0; i < 50; i++) {
-            x.apply(0, list(1, 1, 1, 1, 1, 1));
-        }
-        return x;
-    }
-
-    /** A full stack below the floor of a frame that is dead. */
-    private static TypeStack filledAndDead(int leaves) {
-        TypeStack x = filled(0);
-        x.block(BLOCK, 0, leaves);
-        x.never();
-        return x;
     }
 
     private static void stack(TypeStack x, String want) {
