@@ -89,7 +89,7 @@ public final class TermEdgesTest extends Scenes {
     private static void listOfUpToSixTypes() {
         check.part("A LIST of up to 6 TYPES is a number: its digits in base 5, each 1 .. 4");
         Set<Integer> lists = allLists();
-        check.due("how many LISTS there are", lists.size(), () -> 1 + 4 + 16 + 64 + 256 + 1024 + 4096);
+        check.due("how many LISTS there are", 1 + 4 + 16 + 64 + 256 + 1024 + 4096, () -> lists.size());
         for (int number = -800; number <= 80000; number++) {
             listOrNot(number, lists.contains(number));
         }
