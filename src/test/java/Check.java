@@ -47,7 +47,10 @@ final class Check {
         due(call, outcome(act), "nothing");
     }
 
-    /** The call must throw just that class, and must leave the whole state as it was. */
+    /**
+     * The call must throw just that class, and must leave the whole state as it was. Only for an object
+     * that has little in it and is looked at so a few times: see state.
+     */
     void refused(TypeStack x, String call, Class<? extends RuntimeException> want, Act act) {
         String before = state(x);
         due(call, outcome(act), "throws." + want.getSimpleName());
@@ -101,8 +104,9 @@ final class Check {
     }
 
     /**
-     * All that can be asked of an object. It may ask more often than the 512 times that the document
-     * promises an answer for: the program does not count its calls, so that does no harm here.
+     * All that can be asked of an object. Every type and every frame costs calls, and the document
+     * promises no answer behind an object's 512th: an object that is full, or is asked over and over, is
+     * looked at by way of a Scene instead.
      */
     static String state(TypeStack x) {
         return counts(x) + " stack" + stack(x) + " frames" + framesOf(x);

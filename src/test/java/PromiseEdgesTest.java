@@ -1,5 +1,5 @@
 /**
- * Promises 1 to 16: each sentence of theirs that names a boundary has a test of its own here, which
+ * Promises 1 to 8: each sentence of theirs that names a boundary has a test of its own here, which
  * bears the sentence's words. What a sentence shares with "Terms" stands in TermEdgesTest, and the order
  * of the exceptions in RefusalOrderTest.
  */
@@ -86,12 +86,13 @@ public final class PromiseEdgesTest extends Scenes {
 
     private static void beginRefused() {
         check.part("2: begin that is refused");
-        TypeStack x = dead(with(fenced(2, 3), 4));
-        x.apply(0, 4);
         for (int wrong : NO_LISTS) {
-            check.refused(x, "begin(" + wrong + ")", ARGUMENT, () -> x.begin(wrong));
+            Check.Scene scene = () -> with(fencedAndDead(2, 3), 4);
+            check.refused("begin(" + wrong + ")", ARGUMENT, scene, x -> x.begin(wrong));
+            TypeStack x = scene.make();
+            Check.outcome(() -> x.begin(wrong));
+            check.due("drop() goes on", 4, x::drop);
         }
-        check.due("drop() goes on", 4, x::drop);
     }
 
     private static void howManyAreOnTheStack() {
@@ -267,8 +268,8 @@ public final class PromiseEdgesTest extends Scenes {
         for (int frames = 2; frames <= 40; frames++) {
             check.due("block(0, 0, 0)", frames, () -> x.block(BLOCK, 0, 0));
         }
-        check.refused(x, "block(0, 0, 0) as the 41st", TOO_MANY, () -> x.block(BLOCK, 0, 0));
         check.due("count(1)", 40, () -> x.count(1));
+        check.refused("block(0, 0, 0) as the 41st", TOO_MANY, () -> nested(40), y -> y.block(BLOCK, 0, 0));
     }
 
     private static void elseTakesWhatTheIfLeft() {

@@ -63,7 +63,7 @@ public final class PromisesTest extends Scenes {
         frame(x, 0, "0,0,15624,0,0,15624");
         x.apply(0, 2);
         for (int wrong : NO_LISTS) {
-            check.refused(x, "begin(" + wrong + ")", ARGUMENT, () -> x.begin(wrong));
+            check.refused("begin(" + wrong + ")", ARGUMENT, () -> holding(2), y -> y.begin(wrong));
         }
         check.fine("begin(0)", () -> x.begin(0));
         check.due("end()", 0, x::end);
@@ -89,9 +89,9 @@ public final class PromisesTest extends Scenes {
         stack(x, "444444");
         check.due("apply(444444, 0)", 0, () -> x.apply(list(4, 4, 4, 4, 4, 4), 0));
         for (int wrong : NO_LISTS) {
-            check.refused(x, "apply(" + wrong + ", 0)", ARGUMENT, () -> x.apply(wrong, 0));
-            check.refused(x, "apply(0, " + wrong + ")", ARGUMENT, () -> x.apply(0, wrong));
-            check.refused(x, "apply(4, " + wrong + ")", ARGUMENT, () -> x.apply(4, wrong));
+            check.refused("apply(" + wrong + ", 0)", ARGUMENT, TypeStack::new, y -> y.apply(wrong, 0));
+            check.refused("apply(0, " + wrong + ")", ARGUMENT, TypeStack::new, y -> y.apply(0, wrong));
+            check.refused("apply(4, " + wrong + ")", ARGUMENT, TypeStack::new, y -> y.apply(4, wrong));
         }
         x.apply(0, 3);
         x.block(BLOCK, 0, 0);
@@ -105,14 +105,14 @@ public final class PromisesTest extends Scenes {
 
     private static void applyAtTheLimit() {
         check.part("3 apply at the limit");
+        check.refused("apply(0, 1)", TOO_MANY, () -> filled(0), x -> x.apply(0, 1));
+        check.refused("apply(1, 11)", TOO_MANY, () -> filled(0), x -> x.apply(1, list(1, 1)));
+        check.refused("apply(2, 11)", STATE, () -> filled(0), x -> x.apply(2, list(1, 1)));
         TypeStack x = filled(0);
-        check.refused(x, "apply(0, 1)", TOO_MANY, () -> x.apply(0, 1));
-        check.refused(x, "apply(1, 11)", TOO_MANY, () -> x.apply(1, list(1, 1)));
-        check.refused(x, "apply(2, 11)", STATE, () -> x.apply(2, list(1, 1)));
         check.due("apply(11, 22)", 300, () -> x.apply(list(1, 1), list(2, 2)));
         check.due("apply(2, 0)", 299, () -> x.apply(2, 0));
-        check.refused(x, "apply(0, 11)", TOO_MANY, () -> x.apply(0, list(1, 1)));
         check.due("apply(0, 1)", 300, () -> x.apply(0, 1));
+        check.refused("apply(0, 11) on 299", TOO_MANY, () -> ones(299, 0), y -> y.apply(0, list(1, 1)));
     }
 
     private static void drop() {
@@ -198,20 +198,15 @@ public final class PromisesTest extends Scenes {
 
     private static void selectAtTheLimit() {
         check.part("5 select at the limit");
-        TypeStack x = filledAndDead(0);
-        check.refused(x, "select()", TOO_MANY, x::select);
+        check.refused("select()", TOO_MANY, () -> filledAndDead(0), x -> x.select());
         TypeStack live = filled(0);
         check.due("select()", 1, live::select);
         check.due("count(0)", 298, () -> live.count(0));
-        TypeStack almost = filled(0);
-        almost.drop();
-        almost.block(BLOCK, 0, 0);
-        almost.never();
+        TypeStack almost = fencedAndDead(299, 0);
         check.due("select()", 0, almost::select);
         check.due("count(0)", 300, () -> almost.count(0));
-        almost.drop();
-        almost.apply(0, 2);
-        check.refused(almost, "select()", STATE, almost::select);
+        check.refused("select() with a 2 as the 300th", STATE,
+                () -> with(fencedAndDead(299, 0), 2), x -> x.select());
     }
 
     private static void block() {
@@ -244,15 +239,16 @@ public final class PromisesTest extends Scenes {
 
     private static void blockRefuses() {
         check.part("6 block refuses");
-        TypeStack x = holding(1, 2, 3);
-        int[] noKinds = {Integer.MIN_VALUE, -1, 3, 4, Integer.MAX_VALUE};
+        Check.Scene three = () -> holding(1, 2, 3);
+        int[] noKinds = {MIN, -1, 3, 4, MAX};
         for (int kind : noKinds) {
-            check.refused(x, "block(" + kind + ", 0, 0)", ARGUMENT, () -> x.block(kind, 0, 0));
+            check.refused("block(" + kind + ", 0, 0)", ARGUMENT, three, y -> y.block(kind, 0, 0));
         }
         for (int wrong : NO_LISTS) {
-            check.refused(x, "block(0, " + wrong + ", 0)", ARGUMENT, () -> x.block(BLOCK, wrong, 0));
-            check.refused(x, "block(1, 4, " + wrong + ")", ARGUMENT, () -> x.block(LOOP, 4, wrong));
+            check.refused("block(0, " + wrong + ", 0)", ARGUMENT, three, y -> y.block(BLOCK, wrong, 0));
+            check.refused("block(1, 4, " + wrong + ")", ARGUMENT, three, y -> y.block(LOOP, 4, wrong));
         }
+        TypeStack x = three.make();
         check.refused(x, "block(0, 2, 0)", STATE, () -> x.block(BLOCK, 2, 0));
         check.refused(x, "block(1, 33, 0)", STATE, () -> x.block(LOOP, list(3, 3), 0));
         check.refused(x, "block(0, 1123, 0)", STATE, () -> x.block(BLOCK, list(1, 1, 2, 3), 0));
@@ -271,13 +267,14 @@ public final class PromisesTest extends Scenes {
         for (int i = 2; i <= 40; i++) {
             check.due("block(0, 0, 0)", i, () -> x.block(BLOCK, 0, 0));
         }
-        check.refused(x, "block(0, 0, 0) as the 41st", TOO_MANY, () -> x.block(BLOCK, 0, 0));
-        check.refused(x, "block(2, 0, 0) as the 41st", STATE, () -> x.block(IF, 0, 0));
-        check.refused(x, "block(3, 0, 0) as the 41st", ARGUMENT, () -> x.block(3, 0, 0));
+        check.refused("block(0, 0, 0) as the 41st", TOO_MANY, () -> nested(40), y -> y.block(BLOCK, 0, 0));
+        check.refused("block(2, 0, 0) as the 41st", STATE, () -> nested(40), y -> y.block(IF, 0, 0));
+        check.refused("block(3, 0, 0) as the 41st", ARGUMENT, () -> nested(40), y -> y.block(3, 0, 0));
         check.due("end()", 39, x::end);
         check.due("block(1, 0, 0)", 40, () -> x.block(LOOP, 0, 0));
+        check.refused("block(0, 1, 0) on a full stack", TOO_MANY,
+                () -> filledAndDead(0), y -> y.block(BLOCK, 1, 0));
         TypeStack full = filledAndDead(0);
-        check.refused(full, "block(0, 1, 0) on a full stack", TOO_MANY, () -> full.block(BLOCK, 1, 0));
         check.due("block(2, 0, 111111) on a full stack", 3, () -> full.block(IF, 0, list(1, 1, 1, 1, 1, 1)));
         TypeStack live = filled(0);
         check.due("block(0, 11, 0) on a full stack", 2, () -> live.block(BLOCK, list(1, 1), 0));
@@ -385,13 +382,9 @@ public final class PromisesTest extends Scenes {
         x.never();
         x.apply(0, list(3, 3));
         check.refused(x, "end() with too many in dead code", STATE, x::end);
-        TypeStack full = filledAndDead(1);
-        check.refused(full, "end() on a full stack", TOO_MANY, full::end);
-        TypeStack fits = filled(0);
-        fits.drop();
-        fits.block(BLOCK, 0, list(1, 1));
-        fits.never();
-        check.refused(fits, "end() with room for one of two", TOO_MANY, fits::end);
+        check.refused("end() on a full stack", TOO_MANY, () -> filledAndDead(1), y -> y.end());
+        check.refused("end() with room for one of two", TOO_MANY,
+                () -> fencedAndDead(299, list(1, 1)), y -> y.end());
         TypeStack swapped = holding(2, 3, 1);
         swapped.block(IF, list(2, 3), list(3, 2));
         check.refused(swapped, "end() of an if that swaps", UNSUPPORTED, swapped::end);
@@ -488,9 +481,8 @@ public final class PromisesTest extends Scenes {
 
     private static void leapIfAtTheLimit() {
         check.part("10 leapIf at the limit");
-        TypeStack x = filledAndDead(1);
-        check.refused(x, "leapIf(0)", TOO_MANY, () -> x.leapIf(0));
-        check.due("leapIf(1)", 300, () -> x.leapIf(1));
+        check.refused("leapIf(0)", TOO_MANY, () -> filledAndDead(1), x -> x.leapIf(0));
+        check.answers("leapIf(1)", 300, () -> filledAndDead(1), x -> x.leapIf(1));
         TypeStack live = filled(list(1, 1));
         check.due("leapIf(0)", 299, () -> live.leapIf(0));
     }
@@ -518,29 +510,34 @@ public final class PromisesTest extends Scenes {
 
     private static void tableRefuses() {
         check.part("11 table refuses");
+        check.refused("table(1, 3) on nothing", STATE, PromisesTest::fourLabels, x -> x.table(1, 3));
+        check.refused("table(0, 1): as many comes before the TYPE 1", UNSUPPORTED,
+                PromisesTest::fourLabels, x -> x.table(0, 1));
+        Check.Scene ready = () -> with(fourLabels(), 3, 1);
+        check.refused("table(1, 3): m can't be taken", STATE, ready, x -> x.table(1, 3));
+        check.refused("table(3, 1): l can't be taken", STATE, ready, x -> x.table(3, 1));
+        check.refused("table(3, 3): neither can be taken", STATE, ready, x -> x.table(3, 3));
+        check.refused("table(0, 3)", UNSUPPORTED, ready, x -> x.table(0, 3));
+        check.refused("table(3, 2)", UNSUPPORTED, ready, x -> x.table(3, 2));
+        check.refused("table(4, 0)", NO_ELEMENT, ready, x -> x.table(4, 0));
+        check.refused("table(0, 4)", NO_ELEMENT, ready, x -> x.table(0, 4));
+        check.refused("table(-1, 0)", NO_ELEMENT, ready, x -> x.table(-1, 0));
+        check.refused("table(1, -1)", NO_ELEMENT, ready, x -> x.table(1, -1));
+        check.refused("table(1, MIN)", NO_ELEMENT, ready, x -> x.table(1, MIN));
+        check.fine("table(1, 1)", ready, x -> x.table(1, 1));
+        check.refused("table(0, 1) in dead code", UNSUPPORTED, () -> dead(fourLabels()), x -> x.table(0, 1));
+        check.refused("table(1, 3) in dead code", STATE,
+                () -> with(dead(fourLabels()), 3, 1), x -> x.table(1, 3));
+        check.refused("table(0, 0) without a TYPE 1", STATE, () -> with(dead(fourLabels()), 3), x -> x.table(0, 0));
+    }
+
+    /** Labels 0 to 3 want nothing, a 3, nothing and a 2. */
+    private static TypeStack fourLabels() {
         TypeStack x = begun(2);
         x.block(LOOP, 0, 3);
         x.block(BLOCK, 0, 3);
         x.block(LOOP, 0, 2);
-        check.refused(x, "table(1, 3) on nothing", STATE, () -> x.table(1, 3));
-        check.refused(x, "table(0, 1): as many comes before the TYPE 1", UNSUPPORTED, () -> x.table(0, 1));
-        x.apply(0, list(3, 1));
-        check.refused(x, "table(1, 3): m can't be taken", STATE, () -> x.table(1, 3));
-        check.refused(x, "table(3, 1): l can't be taken", STATE, () -> x.table(3, 1));
-        check.refused(x, "table(3, 3): neither can be taken", STATE, () -> x.table(3, 3));
-        check.refused(x, "table(0, 3)", UNSUPPORTED, () -> x.table(0, 3));
-        check.refused(x, "table(3, 2)", UNSUPPORTED, () -> x.table(3, 2));
-        check.refused(x, "table(4, 0)", NO_ELEMENT, () -> x.table(4, 0));
-        check.refused(x, "table(0, 4)", NO_ELEMENT, () -> x.table(0, 4));
-        check.refused(x, "table(-1, 0)", NO_ELEMENT, () -> x.table(-1, 0));
-        check.refused(x, "table(1, -1)", NO_ELEMENT, () -> x.table(1, -1));
-        check.refused(x, "table(1, MIN)", NO_ELEMENT, () -> x.table(1, Integer.MIN_VALUE));
-        check.fine("table(1, 1)", () -> x.table(1, 1));
-        check.refused(x, "table(0, 1) in dead code", UNSUPPORTED, () -> x.table(0, 1));
-        x.apply(0, list(3, 1));
-        check.refused(x, "table(1, 3) in dead code", STATE, () -> x.table(1, 3));
-        x.apply(1, 0);
-        check.refused(x, "table(0, 0) without a TYPE 1", STATE, () -> x.table(0, 0));
+        return x;
     }
 
     private static void back() {
@@ -620,12 +617,12 @@ public final class PromisesTest extends Scenes {
         frame(x, 2, "0,0,24,0,0,24");
         int[] noLabels = {3, 4, 40, Integer.MAX_VALUE, -1, Integer.MIN_VALUE};
         for (int l : noLabels) {
-            check.refused(x, "frame(" + l + ", 0)", NO_ELEMENT, () -> x.frame(l, 0));
-            check.refused(x, "frame(" + l + ", 6)", NO_ELEMENT, () -> x.frame(l, 6));
+            check.refused("frame(" + l + ", 0)", NO_ELEMENT, () -> nested(3), y -> y.frame(l, 0));
+            check.refused("frame(" + l + ", 6)", NO_ELEMENT, () -> nested(3), y -> y.frame(l, 6));
         }
         int[] noWhats = {6, 7, -1, Integer.MAX_VALUE, Integer.MIN_VALUE};
         for (int what : noWhats) {
-            check.refused(x, "frame(2, " + what + ")", ARGUMENT, () -> x.frame(2, what));
+            check.refused("frame(2, " + what + ")", ARGUMENT, () -> nested(3), y -> y.frame(2, what));
         }
         x.never();
         frame(x, 0, "2,0,2,2,1,2");

